@@ -324,9 +324,9 @@ public final class BurinLines {
             int calmest = turns[cell];
             int leastStrain = strain(cell, calmest);
             for (int turn = 0; turn < TURNS; turn++) {
-                int strain = strain(cell, turn);
-                if (strain < leastStrain) {
-                    leastStrain = strain;
+                int itsStrain = strain(cell, turn);
+                if (itsStrain < leastStrain) {
+                    leastStrain = itsStrain;
                     calmest = turn;
                 }
             }

@@ -204,6 +204,9 @@ public final class LinesTest {
         b.set(2, 10);
         check.due("greatest of no STROKES", b.error(0), 100);
         check.due("all together of no STROKES", b.error(1), 150);
+        b.tone(0, 0, 9);
+        b.tone(7, 7, 9);
+        check.due("first and last CELL too", b.error(1), 168);
         check.due("what 2", b.error(2), -3);
         check.due("what -1", b.error(-1), -3);
     }

@@ -92,6 +92,7 @@ public final class ModelTest {
 
     private static Call question(Random random) {
         int few = random.nextInt(8);
+        int number = random.nextInt(few == 0 ? 66 : 30) - 1;
         switch (random.nextInt(14)) {
             case 0: return Call.of("at", cell(random), cell(random), few % 5 - 1 + few / 7);
             case 1: return Call.of("knot", cell(random), cell(random));
@@ -100,9 +101,9 @@ public final class ModelTest {
             case 5: return Call.of("made", cell(random), cell(random));
             case 6: return Call.of("error", few % 4 - 1);
             case 7: return Call.of("paths", layer(random));
-            case 8: case 9: return Call.of("path", layer(random), random.nextInt(30) - 1, few < 7 ? few % 5 : -1);
-            case 10: return Call.of("cut", layer(random), random.nextInt(30) - 1);
-            case 11: return Call.of("begin", layer(random), random.nextInt(30) - 1);
+            case 8: case 9: return Call.of("path", layer(random), number, few < 7 ? few % 5 : -1);
+            case 10: return Call.of("cut", layer(random), number);
+            case 11: return Call.of("begin", layer(random), number);
             case 12: return Call.of("air", layer(random));
             default: return Call.of("count", few - 1);
         }

@@ -6,7 +6,9 @@ public final class PathsTest {
         rows();
         diagonals();
         mostPaths();
+        widestAtAnEnd();
         orderOfRows();
+        orderByEitherEnd();
         orderOfSingles();
         orderAsNear();
         orderOfLayers();
@@ -76,22 +78,37 @@ public final class PathsTest {
         path(b, 0, 2, 42, 56, 3, 6);
     }
 
+    /** No STROKE has its own WAY before it or behind it. */
     private static void mostPaths() {
         BurinLines b = new BurinLines();
         b.shade(0, 0, 7, 7, 100);
         for (int cell = 0; cell < 64; cell++) {
-            int x = cell % 8;
-            int y = cell / 8;
-            b.tell(x, y, x % 2 == 0 ? 0 : 4 * ((y + 1) % 2));
+            b.tell(cell % 8, cell / 8, 4 * ((cell % 8 + cell / 8) % 2));
         }
-        int together = 0;
-        int paths = b.paths(0);
-        for (int k = 0; k < paths; k++) {
-            together += b.path(0, k, 2);
+        for (int layer = 0; layer < 2; layer++) {
+            check.due("64 paths", b.paths(layer), 64);
+            path(b, layer, 0, 0, 0, 1, layer == 0 ? 6 : 4);
+            path(b, layer, 63, 63, 63, 1, layer == 0 ? 6 : 4);
+            check.due("path 64", b.path(layer, 64, 0), -2);
+            boolean[] isCut = new boolean[64];
+            for (int i = 0; i < 64; i++) {
+                int k = b.cut(layer, i);
+                check.holds("each is cut once", k >= 0 && k < 64 && !isCut[k]);
+                isCut[k] = true;
+            }
+            check.due("cut 64", b.cut(layer, 64), -3);
+            check.due("begin 64", b.begin(layer, 64), -3);
         }
-        check.due("each STROKE is in one PATH", together, 64);
-        check.due("there are as many in ORDER", b.cut(0, paths - 1) >= 0 ? 1 : 0, 1);
-        check.due("and no more", b.cut(0, paths), -3);
+    }
+
+    private static void widestAtAnEnd() {
+        BurinLines b = new BurinLines();
+        b.shade(0, 7, 7, 7, 20);
+        b.tone(7, 7, 60);
+        path(b, 0, 0, 56, 63, 8, 6);
+        b.tone(7, 7, 20);
+        b.tone(0, 7, 60);
+        path(b, 0, 0, 56, 63, 8, 6);
     }
 
     private static void orderOfRows() {
@@ -108,6 +125,23 @@ public final class PathsTest {
             down.tell(4 - i, i, 6);
         }
         order(down, 0, new int[] {0}, new int[] {25}, 3);
+    }
+
+    /** A PATH is as near as the nearer one of its ends, be it the first or the last. */
+    private static void orderByEitherEnd() {
+        BurinLines byLast = new BurinLines();
+        byLast.tone(6, 0, 50);
+        for (int i = 0; i < 5; i++) {
+            byLast.tone(7 - i, 1 + i, 50);
+            byLast.tell(7 - i, 1 + i, 7);
+        }
+        order(byLast, 0, new int[] {1, 0}, new int[] {43, 6}, 6);
+        BurinLines byFirst = new BurinLines();
+        byFirst.tone(6, 0, 50);
+        byFirst.shade(2, 5, 7, 5, 50);
+        order(byFirst, 0, new int[] {1, 0}, new int[] {42, 6}, 10);
+        byFirst.tone(6, 0, 0);
+        check.due("air without another call before it", byFirst.air(0), 5);
     }
 
     private static void orderOfSingles() {
@@ -171,6 +205,11 @@ public final class PathsTest {
         b.set(2, 6);
         check.due("by LEAST, layer 0", b.count(2), 2);
         check.due("by LEAST, layer 1", b.count(3), 0);
+        b.tone(7, 7, 1);
+        b.set(2, 1);
+        b.tone(7, 6, 10);
+        check.due("a TONE of 1 counts, and one without a STROKE", b.count(0), 11);
+        check.due("a WIDTH of 1 counts", b.count(2), 6);
         check.due("none TOLD", b.count(1), 0);
         b.tell(0, 0, 0);
         b.tell(1, 0, 2);
