@@ -68,10 +68,18 @@ public final class FaceTest {
             }
         }
         check.holds("the document's methods and no other: " + open, open.equals(Set.of(FACE)));
-        for (String one : FACE) {
-            String name = one.substring(0, one.indexOf(' '));
-            check.holds("no private method is named " + name, !closed.contains(name));
+        for (String name : closed) {
+            check.holds("no private method has a name of the face: " + name, !isOfFace(name));
         }
+    }
+
+    private static boolean isOfFace(String name) {
+        for (String one : FACE) {
+            if (one.startsWith(name + " ")) {
+                return true;
+            }
+        }
+        return false;
     }
 
     private static void classesInside() {
@@ -84,6 +92,7 @@ public final class FaceTest {
             check.holds(one + " has at most twenty fields", one.getDeclaredFields().length <= 20);
             for (Method method : one.getDeclaredMethods()) {
                 check.holds(method + " takes at most seven", method.getParameterCount() <= 7);
+                check.holds(method + " has no name of the face", !isOfFace(method.getName()));
             }
         }
     }

@@ -1,146 +1,77 @@
 import java.util.ArrayList;
 import java.util.List;
 
-/** Each refusal, in the document's order of them, and that nothing has changed after it. */
+/**
+ * Every mix of numbers at and beyond the edges, for each call on each plate: where the Model says that
+ * it is refused, it is refused so, and nothing has changed.
+ */
 public final class RefusalTest {
-    private static final int UNKNOWN = -2, OUTSIDE = -3, NOT = -4;
-    private static final int LOW = Integer.MIN_VALUE, HIGH = Integer.MAX_VALUE;
-    private static final Check check = new Check();
+    private static final String REFUSED = "Refused, and nothing changes: UNKNOWN (no such CELL, LAYER, PATH, block), "
+            + "OUTSIDE (another number is not as told), NOT (not now: as told): the first of these that fits.";
+    private static final int LOW = Edges.LOW, HIGH = Edges.HIGH;
+    private static final int[] ANY = {LOW, -8, -1, 0, 1, 2, 3, 4, 5, 6, 7, 8, 63, 64, 100, 101, HIGH};
+    private static final int[] PLACES = {LOW, -1, 0, 3, 7, 8, HIGH};
+    private static final int[] SETTINGS = {LOW, -1, 0, 1, 3, 4, 9, 10, 11, 39, 40, 41, 99, 100, 101, HIGH};
 
-    public static void main(String[] args) {
-        for (int wrong : new int[] {-1, 8, LOW, HIGH}) {
-            unknownCells(wrong);
-        }
-        for (int wrong : new int[] {-1, 2, LOW, HIGH}) {
-            unknownLayers(wrong);
-        }
-        unknownRest();
-        outside();
-        refused(NOT, "free", 5, 5);
-        check.end();
+    private static Edges edges;
+
+    public static void main(String[] args) throws Exception {
+        edges = new Edges();
+        mixes(2, "tone", ANY, ANY, ANY);
+        mixes(3, "shade", PLACES, PLACES, PLACES, PLACES, new int[] {-1, 0, 100, 101});
+        mixes(4, "tell", ANY, ANY, ANY);
+        mixes(5, "free", ANY, ANY);
+        mixes(7, "at", ANY, ANY, ANY);
+        mixes(8, "knot", ANY, ANY);
+        mixes(9, "set", ANY, SETTINGS);
+        mixes(10, "wanted", ANY, ANY, ANY);
+        mixes(11, "width", ANY, ANY, ANY);
+        mixes(12, "made", ANY, ANY);
+        mixes(13, "error", ANY);
+        mixes(14, "paths", ANY);
+        mixes(15, "path", ANY, ANY, ANY);
+        mixes(16, "cut", ANY, ANY);
+        mixes(17, "begin", ANY, ANY);
+        mixes(18, "air", ANY);
+        mixes(19, "count", ANY);
+        edges.end(2, 3, 4, 5, 7, 8, 9, 10, 11, 12, 13, 14, 15, 16, 17, 18, 19);
     }
 
-    private static void unknownCells(int wrong) {
-        String[] ofCell = {"tone", "tell", "at", "wanted", "width"};
-        for (String name : ofCell) {
-            refused(UNKNOWN, name, wrong, 2, 1);
-            refused(UNKNOWN, name, 2, wrong, 1);
-            refused(UNKNOWN, name, wrong, wrong, HIGH);
+    private static void mixes(int promise, String name, int[]... numbers) {
+        edges.of(promise, REFUSED);
+        int all = 1;
+        for (int[] ofOne : numbers) {
+            all *= ofOne.length;
         }
-        for (String name : new String[] {"free", "made", "knot"}) {
-            refused(UNKNOWN, name, wrong, 2);
-            refused(UNKNOWN, name, 2, wrong);
-        }
-        refused(UNKNOWN, "shade", wrong, 2, 5, 5, 1);
-        refused(UNKNOWN, "shade", 2, wrong, 5, 5, 1);
-        refused(UNKNOWN, "shade", 2, 2, wrong, 5, 1);
-        refused(UNKNOWN, "shade", 2, 2, 5, wrong, 1);
-        refused(UNKNOWN, "shade", 2, 2, 5, wrong, 101);
-        refused(UNKNOWN, "shade", 5, 2, 2, wrong, 1);
-    }
-
-    private static void unknownLayers(int wrong) {
-        refused(UNKNOWN, "wanted", 2, 2, wrong);
-        refused(UNKNOWN, "width", 2, 2, wrong);
-        refused(UNKNOWN, "paths", wrong);
-        refused(UNKNOWN, "path", wrong, 0, 0);
-        refused(UNKNOWN, "path", wrong, 0, 4);
-        refused(UNKNOWN, "cut", wrong, 0);
-        refused(UNKNOWN, "cut", wrong, -1);
-        refused(UNKNOWN, "begin", wrong, 0);
-        refused(UNKNOWN, "begin", wrong, 99);
-        refused(UNKNOWN, "air", wrong);
-    }
-
-    private static void unknownRest() {
-        refused(UNKNOWN, "knot", 7, 2);
-        refused(UNKNOWN, "knot", 2, 7);
-        for (int k : new int[] {-1, 64, LOW, HIGH}) {
-            refused(UNKNOWN, "path", 0, k, 0);
-            refused(UNKNOWN, "path", 0, k, 4);
-        }
-    }
-
-    private static void outside() {
-        for (int v : new int[] {-1, 101, LOW, HIGH}) {
-            refused(OUTSIDE, "tone", 2, 2, v);
-            refused(OUTSIDE, "shade", 2, 2, 5, 5, v);
-        }
-        refused(OUTSIDE, "shade", 5, 2, 2, 5, 1);
-        refused(OUTSIDE, "shade", 2, 5, 5, 2, 1);
-        for (int turn : new int[] {-1, 8, LOW, HIGH}) {
-            refused(OUTSIDE, "tell", 3, 3, turn);
-            refused(OUTSIDE, "tell", 5, 5, turn);
-        }
-        for (int what : new int[] {-1, 5, LOW, HIGH}) {
-            refused(OUTSIDE, "at", 2, 2, what);
-            refused(OUTSIDE, "error", what);
-            refused(OUTSIDE, "path", 0, 0, what);
-            refused(OUTSIDE, "count", what);
-            refused(OUTSIDE, "set", what, 10);
-        }
-        refused(OUTSIDE, "at", 2, 2, 3);
-        refused(OUTSIDE, "error", 2);
-        refused(OUTSIDE, "path", 0, 0, 4);
-        refused(OUTSIDE, "set", 4, 10);
-        int[][] beyond = {{3, 41}, {9, 101}, {0, 11}, {0, 41}};
-        for (int what = 0; what < 4; what++) {
-            for (int v : new int[] {beyond[what][0], beyond[what][1], LOW, HIGH}) {
-                refused(OUTSIDE, "set", what, v);
+        for (Plates plate : Plates.values()) {
+            List<Call> refused = new ArrayList<>();
+            for (int mix = 0; mix < all; mix++) {
+                Call call = Call.of(name, mixOf(mix, numbers));
+                int want = plate.model().answer(call);
+                edges.due(plate.make(), want, name, call.args);
+                if (want < BurinLines.NONE) {
+                    refused.add(call);
+                }
             }
-        }
-        for (int i : new int[] {-1, 64, LOW, HIGH}) {
-            refused(OUTSIDE, "cut", 0, i);
-            refused(OUTSIDE, "begin", 1, i);
+            changeNothing(plate, refused);
+            edges.holds(name + " was refused on a plate " + plate, !refused.isEmpty());
         }
     }
 
-    private static BurinLines before() {
-        BurinLines b = new BurinLines();
-        b.shade(1, 1, 6, 6, 80);
-        b.tone(2, 3, 35);
-        b.tell(3, 3, 6);
-        b.tell(2, 2, 3);
-        b.tell(7, 7, 5);
-        b.free(7, 7);
-        b.even();
-        b.set(0, 20);
-        b.set(1, 50);
-        b.set(2, 2);
-        b.set(3, 3);
-        return b;
+    private static int[] mixOf(int mix, int[][] numbers) {
+        int[] args = new int[numbers.length];
+        int rest = mix;
+        for (int i = 0; i < args.length; i++) {
+            args[i] = numbers[i][rest % numbers[i].length];
+            rest /= numbers[i].length;
+        }
+        return args;
     }
 
-    private static void refused(int want, String name, int... args) {
-        Call call = Call.of(name, args);
-        BurinLines b = before();
-        check.due(call.toString(), call.on(b), want);
-        check.holds("nothing has changed after " + call, seen(b).equals(seen(before())));
-    }
-
-    /** All that can be asked of an object, at least once, within the calls it is good for. */
-    private static List<Integer> seen(BurinLines b) {
-        List<Integer> seen = new ArrayList<>();
-        for (int cell = 0; cell < 64; cell++) {
-            for (int what = 0; what < 3; what++) {
-                seen.add(b.at(cell % 8, cell / 8, what));
-            }
-            seen.add(b.width(cell % 8, cell / 8, 0));
-            seen.add(b.width(cell % 8, cell / 8, 1));
+    private static void changeNothing(Plates plate, List<Call> refused) {
+        for (int from = 0; from < refused.size(); from += Snapshot.MOST_CALLS) {
+            int to = Math.min(from + Snapshot.MOST_CALLS, refused.size());
+            edges.changeNothing(plate, refused.subList(from, to));
         }
-        for (int layer = 0; layer < 2; layer++) {
-            seen.add(b.paths(layer));
-            seen.add(b.air(layer));
-            seen.add(b.cut(layer, 3));
-            seen.add(b.begin(layer, 3));
-            seen.add(b.path(layer, 1, 1));
-        }
-        for (int what = 0; what < 5; what++) {
-            seen.add(b.count(what));
-        }
-        for (int what = 0; what < 4; what++) {
-            seen.add(b.set(what, 10));
-        }
-        return seen;
     }
 }
