@@ -6,9 +6,10 @@ import java.nio.file.Files;
 import java.nio.file.Path;
 import java.util.Set;
 import java.util.TreeSet;
+import java.util.regex.Matcher;
 import java.util.regex.Pattern;
 
-/** The public face of the document, and those rules of LANGUAGE.md that a look at the class can tell. */
+/** The public face is that which the document shows, and nothing else is open. */
 public final class FaceTest {
     private static final Check check = new Check();
     private static final String[] FACE = {
@@ -21,8 +22,20 @@ public final class FaceTest {
         constants();
         methods();
         classesInside();
-        source(Files.readString(Path.of("src/main/java/BurinLines.java")));
+        documentShowsIt(Files.readString(Path.of("../shared/DOC.md")));
         check.end();
+    }
+
+    private static void documentShowsIt(String document) {
+        Set<String> shown = new TreeSet<>();
+        Matcher method = Pattern.compile("public int (\\w+)\\(([^)]*)\\);").matcher(document);
+        while (method.find()) {
+            int parameters = method.group(2).isEmpty() ? 0 : method.group(2).split(",").length;
+            shown.add(method.group(1) + " " + parameters);
+        }
+        check.holds("the document shows these methods: " + shown, shown.equals(Set.of(FACE)));
+        check.holds("the document shows these constants",
+                document.contains("public static final int NONE = -1, UNKNOWN = -2, OUTSIDE = -3, NOT = -4;"));
     }
 
     private static void classItself() {
@@ -95,17 +108,5 @@ public final class FaceTest {
                 check.holds(method + " has no name of the face", !isOfFace(method.getName()));
             }
         }
-    }
-
-    private static void source(String text) {
-        String code = text.replaceAll("(?s)/\\*.*?\\*/", " ").replaceAll("//[^\n]*", " ");
-        String[] words = {"throw", "throws", "try", "catch", "synchronized", "assert", "import", "package", "native", "volatile"};
-        for (String word : words) {
-            check.holds("no " + word, !Pattern.compile("\\b" + word + "\\b").matcher(code).find());
-        }
-        check.holds("no lambda", !code.contains("->"));
-        check.holds("no method reference", !code.contains("::"));
-        check.holds("no static block", !Pattern.compile("\\bstatic\\s*\\{").matcher(code).find());
-        check.holds("no Exact", !code.contains("Exact("));
     }
 }
